@@ -254,7 +254,7 @@ public final class PathChecker {
 
     /**
      * Reads a text by the grammar into a tree of parts. Operators wait until what binds more
-     * tightly to their right has been joined, so that no call stands inside another.
+     * tightly to their right has been joined, so that deep formulas need no deep calls.
      */
     private static final class Reader {
         private static final int RANK_OF_PREFIX = 5;
@@ -688,7 +688,8 @@ public final class PathChecker {
             int marks = structure.marks[s];
             for (int part = form.size - 1; part >= 0; part--) {
                 int number = form.timedNumbers[part];
-                before[part] = number == NONE ? untimed(before, part, marks) : timedBefore(part, number);
+                before[part] =
+                        number == NONE ? untimed(before, part, marks) : timedBefore(part, number);
             }
         }
 
@@ -745,7 +746,8 @@ public final class PathChecker {
         int guessesAfter(int from, int to, int earlier, int later) {
             int kept = 0;
             for (int guess = 0; guess < guesses; guess++) {
-                if ((later >>> guess & 1) == 1 && (earlier >>> guessBefore(from, to, guess) & 1) == 1) {
+                boolean isLater = (later >>> guess & 1) == 1;
+                if (isLater && (earlier >>> guessBefore(from, to, guess) & 1) == 1) {
                     kept |= 1 << guess;
                 }
             }

@@ -17,8 +17,12 @@ public final class PathCheckerAgainstReference {
         for (int run = 0; run < 400; run++) {
             runOnce(random);
         }
-        for (int run = 0; run < 20000; run++) {
-            compareReading(new PathChecker(), randomText(random));
+        for (int run = 0; run < 2000; run++) {
+            // One object for some texts, so that none may leave a trace for the next one.
+            PathChecker x = new PathChecker();
+            for (int turn = 0; turn < 6; turn++) {
+                compareReading(x, randomText(random));
+            }
         }
         System.out.println(wrong == 0 ? "reference: all as due" : "reference: " + wrong + " wrong");
         if (wrong != 0) {

@@ -13,6 +13,7 @@ public final class PathCheckerPromises {
         formulaThatIsNone();
         formulaThatIsNotModest();
         formulaChangesNothingWhenItThrows();
+        formulaForgetsEarlierTexts();
         grouping();
         normal();
         longestNormalForm();
@@ -23,7 +24,10 @@ public final class PathCheckerPromises {
         keeps();
         breakingAndKeeping();
         pathsAsLongAsTheyNeedBe();
+        farFromTheLastLoop();
+        longestFormulaIsChecked();
         answersFollowChanges();
+        eachAnswerFollowsAtOnce();
         witness();
         witnessOrder();
         witnessLimit();
@@ -208,6 +212,19 @@ public final class PathCheckerPromises {
         due("5 is checked from now on", x.keeps(0), false);
     }
 
+    private static void formulaForgetsEarlierTexts() {
+        PathChecker x = new PathChecker();
+        String[] texts = {"((((((p", "(((((((p", "p)))", "!X(p&", "XXXXXp&X", "p>q>r>", ")"};
+        for (String text : texts) {
+            put(x, text);
+            dueThrow("5 no formula: " + text, IllegalArgumentException.class, x::formula);
+            x.wipe();
+            put(x, "((((((Xp))))))");
+            due("5 a formula behind " + text, x.formula(), 1);
+            due("5 its form behind " + text, form(x), "Xp");
+        }
+    }
+
     private static void grouping() {
         dueForm("p>q>r", "|A|Br");
         dueForm("(p>q)>r", "|&pBr");
@@ -379,10 +396,25 @@ public final class PathCheckerPromises {
         for (int s = 0; s < 6; s++) {
             due("10 those that reach 3", x.endless(s), s >= 3);
         }
+        endlessTheOtherWay();
         due("10 state 6", x.endless(6), false);
         due("10 state -1", x.endless(-1), false);
         due("10 state 35", x.endless(35), false);
         due("10 state -32 + 3", x.endless(-29), false);
+    }
+
+    private static void endlessTheOtherWay() {
+        PathChecker x = new PathChecker();
+        for (int s = 0; s < 5; s++) {
+            x.link(s, s + 1, true);
+        }
+        for (int s = 0; s < 6; s++) {
+            due("10 all end at 5", x.endless(s), false);
+        }
+        x.link(4, 3, true);
+        for (int s = 0; s < 6; s++) {
+            due("10 all but 5 reach 3 and 4", x.endless(s), s < 5);
+        }
     }
 
     // Promises 11 to 13
@@ -447,6 +479,69 @@ public final class PathCheckerPromises {
         x.formula();
         due("14 three spokes take six states", x.witness(0, -1), 6);
         due("14 and go on at the first", x.witness(0, -2), 0);
+    }
+
+    /** From 5 a path that sees p but not for ever has to go once round and stay at 5 then. */
+    private static void farFromTheLastLoop() {
+        for (int turn = 0; turn < 6; turn++) {
+            PathChecker x = new PathChecker();
+            for (int s = 0; s < 6; s++) {
+                x.link((s + turn) % 6, (s + 1 + turn) % 6, true);
+            }
+            int stay = (5 + turn) % 6;
+            x.link(stay, stay, true);
+            x.mark((4 + turn) % 6, 1);
+            dueSets(x, "!(Fp&FG!p)", 63, 63);
+            due("14 seven states are too many", x.witness(stay, -1), NONE);
+            due("14 six are not", x.witness(turn, -1), 6);
+            due("14 and stay at the last", x.witness(turn, -2), 5);
+            due("14 which is this", x.witness(turn, 5), stay);
+        }
+    }
+
+    private static void longestFormulaIsChecked() {
+        PathChecker x = complete();
+        dueSets(x, "FFFFFp&1&1&1&1&1&1&1&1&1&1&1&1&1", 0b111101, 63);
+        dueLasso(x, "GGGGGp|0|0|0|0|0|0|0|0|0|0|0|0|0", 1, "10 j0");
+        x.go(1);
+        due("17 the longest formula", x.judge(0, 0), true);
+    }
+
+    private static void eachAnswerFollowsAtOnce() {
+        PathChecker x = twoLoops();
+        for (int round = 0; round < 2; round++) {
+            put(x, "Gp");
+            x.formula();
+            due("11 behind a formula", x.keeps(0), false);
+            x.link(0, 1, false);
+            due("11 behind a link", x.keeps(0), true);
+            x.mark(0, 0);
+            due("11 behind a mark", x.keeps(0), false);
+            x.mark(0, 1);
+            due("12 behind a mark", x.breaking(), 2);
+            x.link(0, 1, true);
+            due("12 behind a link", x.breaking(), 3);
+            put(x, "Fq");
+            x.formula();
+            due("12 behind a formula", x.breaking(), 1);
+            x.mark(1, 0);
+            due("13 behind a mark", x.keeping(), 0);
+            x.mark(1, 2);
+            x.link(0, 1, false);
+            due("13 behind a link", x.keeping(), 2);
+            put(x, "p");
+            x.formula();
+            due("13 behind a formula", x.keeping(), 1);
+            x.mark(0, 0);
+            due("14 behind a mark", x.witness(0, -1), 1);
+            x.mark(0, 1);
+            due("14 behind another mark", x.witness(0, -1), NONE);
+            put(x, "Gp");
+            x.formula();
+            due("14 behind a formula", x.witness(0, -1), NONE);
+            x.link(0, 1, true);
+            due("14 behind a link", x.witness(0, -1), 2);
+        }
     }
 
     private static void answersFollowChanges() {
