@@ -496,6 +496,8 @@ public final class PathCheckerPromises {
             due("14 six are not", x.witness(turn, -1), 6);
             due("14 and stay at the last", x.witness(turn, -2), 5);
             due("14 which is this", x.witness(turn, 5), stay);
+            dueSets(x, "!(F(p&XFp)&FG!p)", 63, 63);
+            due("14 twice round is too far", x.witness(turn, -1), NONE);
         }
     }
 
