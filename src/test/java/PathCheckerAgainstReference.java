@@ -14,7 +14,7 @@ public final class PathCheckerAgainstReference {
     public static void main(String[] args) {
         // A fixed start, so that each run tries the same.
         Random random = new Random(20261115L);
-        for (int run = 0; run < 400; run++) {
+        for (int run = 0; run < 1500; run++) {
             runOnce(random);
         }
         for (int run = 0; run < 2000; run++) {
@@ -42,16 +42,23 @@ public final class PathCheckerAgainstReference {
                 setLink(x, links, a, b, random.nextInt(6) < density);
             }
         }
-        for (int round = 0; round < 4; round++) {
-            Node root = compareReading(x, randomFormula(random));
-            if (root == null) {
-                continue;
-            }
+        Node root = compareReading(x, randomFormula(random));
+        if (root != null) {
             compareStructure(x, root, marks, links, random);
+        }
+        // Either the structure or the formula changes, or both; more would pass 512 calls.
+        int change = random.nextInt(3);
+        if (change > 0) {
             setMarks(x, marks, random.nextInt(STATES), random.nextInt(16));
             int a = random.nextInt(used);
             int b = random.nextInt(used);
             setLink(x, links, a, b, !links[a][b]);
+        }
+        if (change < 2) {
+            Node next = compareReading(x, randomFormula(random));
+            root = next == null ? root : next;
+        }
+        if (root != null) {
             compareStructure(x, root, marks, links, random);
         }
     }

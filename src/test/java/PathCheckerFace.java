@@ -85,17 +85,21 @@ public final class PathCheckerFace {
 
     /** All calls of a run share one room, so the rows must be made with the object. */
     private static void dearestCallsMakeNothing() {
-        PathChecker x = new PathChecker();
-        callAll(x);
+        PathChecker[] objects = new PathChecker[40];
+        for (int k = 0; k < objects.length; k++) {
+            objects[k] = new PathChecker();
+            callAll(objects[k]);
+        }
         com.sun.management.ThreadMXBean meter =
                 (com.sun.management.ThreadMXBean) ManagementFactory.getThreadMXBean();
         long id = Thread.currentThread().getId();
         long before = meter.getThreadAllocatedBytes(id);
-        for (int round = 0; round < 200; round++) {
-            callAll(x);
+        // Six rounds of calls more are what an object is used for.
+        for (int round = 0; round < 6 * objects.length; round++) {
+            callAll(objects[round / 6]);
         }
         long made = meter.getThreadAllocatedBytes(id) - before;
-        due("less than a row a round is made: " + made, made < 200 * 64, true);
+        due("less than a row a round is made: " + made, made < 6 * objects.length * 64, true);
         before = meter.getThreadAllocatedBytes(id);
         for (int count = 0; count < 100; count++) {
             new PathChecker().go(0);
