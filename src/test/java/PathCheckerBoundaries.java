@@ -11,6 +11,7 @@ public final class PathCheckerBoundaries {
     private static final int MIN = Integer.MIN_VALUE;
     private static final int MAX = Integer.MAX_VALUE;
     private static final int CALL_LIMIT = 512;
+    private static final int WRONG_LIMIT = 100;
     /** The neighbours of 0 .. 5, the far ends, and what a shift or a cast takes for a state. */
     private static final int[] NO_STATES = {
         MIN, MIN + 5, -65531, -251, -64, -32, -27, -2, -1, 6, 7, 8, 32, 37, 64, 256, 65536, MAX
@@ -157,6 +158,7 @@ public final class PathCheckerBoundaries {
         test("at most 6 deep in one another, not in all", () -> manyParentheses());
         test("TIMED operators are X, F, G, U, R.", () -> timedOperators());
         test("MODEST if it has at most 5 of them", () -> modest());
+        test("at most 5 of them: five on all states and links", () -> fiveOnAllLinks());
     }
 
     private static void textOf32() {
@@ -347,6 +349,37 @@ public final class PathCheckerBoundaries {
         };
         for (String text : texts) {
             isNotModest(text);
+        }
+    }
+
+    /** Each row of five futures can follow each state: there is no more to look at than here. */
+    private static void fiveOnAllLinks() {
+        Run x = allLinked().all("mark 1 1", "mark 3 1", "mark 5 1");
+        x.formula("XXXXXp");
+        hasSets(x, 63, 63);
+        x.hasWitness(0, "0", 0);
+        x.hasWitness(1, "10", 0);
+        x.formula("XXXXX1");
+        hasSets(x, 0, 63);
+        x.formula("X(p&X(!p&X(p&X(!p&Xp))))");
+        hasSets(x, 63, 63);
+        x.formula("!X(p&X(!p&X(p&X(!p&Xp))))");
+        hasSets(x, 63, 63);
+        x.hasWitness(0, "01", 0);
+        x.hasWitness(1, "110", 1);
+        x.formula("GF(p&XX!p)|Fp");
+        hasSets(x, 21, 63);
+        x.formula("pU(!pU(pU(!pUGp)))");
+        hasSets(x, 63, 63);
+        x.formula("pR(!pR(pR(!pRFp)))");
+        hasSets(x, 63, 63);
+    }
+
+    private static void hasSets(Run x, int breaking, int keeping) {
+        x.gives("breaking", "" + breaking);
+        x.gives("keeping", "" + keeping);
+        for (int s = 0; s <= 5; s++) {
+            x.gives("keeps " + s, "" + ((breaking >> s & 1) == 0));
         }
     }
 
@@ -1700,6 +1733,10 @@ public final class PathCheckerBoundaries {
     private static void tellWrong(String what, String found, String want) {
         wrong++;
         System.out.println("\"" + sentence + "\": " + what + ": " + found + ", due is " + want);
+        if (wrong == WRONG_LIMIT) {
+            System.out.println("boundaries: more than enough is wrong, the rest is not tried");
+            System.exit(1);
+        }
     }
 
     /** An object with the calls that were made on it, so that a twin of it can be made. */
