@@ -870,18 +870,18 @@ public final class PathCheckerBoundaries {
     private static void promisesOfTexts() {
         test("1: No formula", () -> noFormulaAtFirst());
         test("1: an empty text", () -> noTextAtFirst());
-        test("1: an empty row", () -> rowAtFirst());
+        test("1: an empty row", () -> emptyRowOfNewObject());
         test("1: a new object has nothing of another one", () -> objectsOfTheirOwn());
         test("2: the eight bytes of part, the highest first", () -> bytesInOrder());
         test("2: (bytes that are 0 are passed over)", () -> zeroBytes());
         test("2: false if another byte is not 33 .. 126", () -> bytesThatAreTaken());
-        test("2: or there would be more than 32", () -> textOf32());
+        test("2: or there would be more than 32", () -> zeroBytesCountNothing());
         test("2: false: the bytes before the bad one are not added", () -> noHalfPart());
         test("2: the least and the greatest long", () -> longsOfType());
         test("3: The text becomes empty.", () -> wipe());
         test("4: How many characters the text has.", () -> length());
         test("5: The text is the formula from now on, and is empty then", () -> formulaTakesText());
-        test("5: how many TIMED operators it has", () -> modest());
+        test("5: how many TIMED operators it has", () -> timedFromNoneToFive());
         test("5: IllegalArgumentException if it is no formula", () -> emptyTextIsNone());
         test("5: UnsupportedOperationException if it is one, but not MODEST",
                 () -> notModestStays());
@@ -916,6 +916,18 @@ public final class PathCheckerBoundaries {
         x.gives("length", "0");
         x.refuses("formula", NOT_READ);
         x.gives("length", "0");
+    }
+
+    private static void emptyRowOfNewObject() {
+        Run x = allLinked().formula("1");
+        for (int place = 0; place <= 8; place++) {
+            x.refuses("judge " + place + " 0", NO_FORMULA);
+            x.refuses("judge 0 " + place, NO_FORMULA);
+        }
+        x.gives("go 5", "1");
+        x.refuses("judge 0 1", NO_PLACE);
+        x.refuses("judge 1 0", NO_PLACE);
+        x.gives("judge 0 0", "true");
     }
 
     private static void objectsOfTheirOwn() {
@@ -960,6 +972,28 @@ public final class PathCheckerBoundaries {
             Run with = base.twin();
             with.gives("part 0", "true");
             with.looksLike(base, "part 0");
+        }
+    }
+
+    /** Only what is added counts: a part may have zero bytes around what still fits. */
+    private static void zeroBytesCountNothing() {
+        Run x = new Run().text("!".repeat(31));
+        for (int at = 0; at < 8; at++) {
+            Run fits = x.twin();
+            fits.gives("part " + ((long) 'p' << 8 * at), "true");
+            fits.gives("length", "32");
+            fits.gives("formula", "0");
+            fits.hasForm("A");
+            for (int other = 0; other < at; other++) {
+                long two = (long) '!' << 8 * at | (long) 'p' << 8 * other;
+                x.refuses("part " + two, "false");
+            }
+        }
+        Run full = new Run().text("!".repeat(32));
+        full.gives("part 0", "true");
+        full.gives("length", "32");
+        for (int at = 0; at < 8; at++) {
+            full.refuses("part " + ((long) 'p' << 8 * at), "false");
         }
     }
 
@@ -1077,6 +1111,25 @@ public final class PathCheckerBoundaries {
         y.hasForm("0");
         y.text("FFFFFp" + "&p".repeat(13)).gives("formula", "5");
         y.hasForm("&".repeat(13) + "U1".repeat(5) + "p".repeat(14));
+    }
+
+    private static void timedFromNoneToFive() {
+        for (int count = 0; count <= 6; count++) {
+            String[] texts = {
+                "X".repeat(count) + "p", "F".repeat(count) + "p", "G".repeat(count) + "p",
+                "pU".repeat(count) + "p", "pR".repeat(count) + "p", "!X".repeat(count) + "1",
+                "p" + "&Fp".repeat(count), "Xp" + "|Gp".repeat(count)
+            };
+            for (String text : texts) {
+                Run x = new Run().text(text);
+                int timed = timedIn(text);
+                if (timed <= 5) {
+                    x.gives("formula", "" + timed);
+                } else {
+                    x.refuses("formula", NOT_DONE);
+                }
+            }
+        }
     }
 
     private static void emptyTextIsNone() {
@@ -1330,7 +1383,7 @@ public final class PathCheckerBoundaries {
     private static void promisesOfPaths() {
         test("11: Whether all paths from state s KEEP the formula", () -> keepsAllOrNot());
         test("11: (so also if there is no path)", () -> keepsWithoutPath());
-        test("11: IllegalStateException if there is no formula", () -> firstOfKeeps());
+        test("11: IllegalStateException if there is no formula", () -> keepsWithoutFormula());
         test("11: IndexOutOfBoundsException if there is no such state", () -> statesOfKeeps());
         test("12: The set of all states from which some path BREAKS the formula",
                 () -> setsOfBreaking());
@@ -1345,7 +1398,7 @@ public final class PathCheckerBoundaries {
         test("14: NONE if there is no such state", () -> statesOfWitness());
         test("14: NONE if there is no such witness", () -> noWitness());
         test("14: IllegalStateException if there is no formula (ahead of that)",
-                () -> aheadOfAnswers());
+                () -> witnessWithoutFormula());
     }
 
     private static void keepsAllOrNot() {
@@ -1377,6 +1430,19 @@ public final class PathCheckerBoundaries {
             x.hasNoWitness(0);
             x.hasNoWitness(1);
         }
+    }
+
+    private static void keepsWithoutFormula() {
+        for (Run x : new Run[] {new Run(), allLinked(), new Run("link 0 0 true").text("p")}) {
+            for (int s = 0; s <= 5; s++) {
+                x.refuses("keeps " + s, NO_FORMULA);
+            }
+            x.refuses("keeps " + MIN, NO_FORMULA);
+            x.refuses("keeps " + MAX, NO_FORMULA);
+        }
+        Run now = new Run("link 0 0 true").formula("p");
+        now.gives("keeps 0", "false");
+        now.gives("keeps 5", "true");
     }
 
     private static void statesOfKeeps() {
@@ -1455,6 +1521,19 @@ public final class PathCheckerBoundaries {
         }
     }
 
+    private static void witnessWithoutFormula() {
+        for (Run x : new Run[] {new Run(), allLinked(), new Run("link 0 0 true").text("0")}) {
+            for (int s : new int[] {MIN, -1, 0, 5, 6, MAX}) {
+                for (int k : new int[] {MIN, -3, -2, -1, 0, 5, 6, MAX}) {
+                    x.refuses("witness " + s + " " + k, NO_FORMULA);
+                }
+            }
+        }
+        Run now = new Run("link 0 0 true").formula("0");
+        now.gives("witness 0 -1", "1");
+        now.gives("witness 6 -1", "-1");
+    }
+
     private static void noWitness() {
         Run[] runs = {
             allLinked().formula("1"), new Run("link 0 1 true").formula("0"), roundAndOut(4)
@@ -1471,10 +1550,10 @@ public final class PathCheckerBoundaries {
     private static void promisesOfRows() {
         test("15: State s is added to the row: how many there are", () -> goAddsStates());
         test("15: NONE if there is none such", () -> statesOfGo());
-        test("15: or there are eight", () -> rowOf8());
+        test("15: or there are eight", () -> eightOfOneState());
         test("16: The row becomes empty.", () -> clear());
         test("17: Whether the formula holds at place i of the path", () -> judgeAtEachPlace());
-        test("17: when its last state goes on at place j", () -> next());
+        test("17: when its last state goes on at place j", () -> goesOnAtJ());
         test("17: IllegalStateException if there is no formula", () -> judgeWithoutFormula());
         test("17: or the row is empty", () -> judgeOfEmptyRow());
         test("17: IndexOutOfBoundsException if i or j is no place of the row",
@@ -1514,6 +1593,21 @@ public final class PathCheckerBoundaries {
         }
     }
 
+    private static void eightOfOneState() {
+        for (int s = 0; s <= 5; s++) {
+            Run x = new Run("link " + s + " " + s + " true").formula("1");
+            for (int count = 1; count <= 8; count++) {
+                x.gives("go " + s, "" + count);
+            }
+            x.refuses("go " + s, "-1");
+            x.gives("go " + s, "-1");
+            x.gives("judge 7 7", "true");
+            x.refuses("judge 8 0", NO_PLACE);
+            x.gives("clear", "done");
+            x.gives("go " + s, "1");
+        }
+    }
+
     private static void clear() {
         new Run("clear").looksLike(new Run(), "clear of a new object");
         busy().all("clear").looksLike(busyBut(false, true), "clear, but for the row");
@@ -1547,6 +1641,22 @@ public final class PathCheckerBoundaries {
         eight.gives("judge 7 6", "true");
         eight.gives("judge 7 7", "false");
         eight.gives("judge 6 7", "true");
+    }
+
+    /** Rows of each length: what is for ever so is what lies from place j on. */
+    private static void goesOnAtJ() {
+        for (int count = 1; count <= 8; count++) {
+            for (int marked = 0; marked < count; marked++) {
+                Run x = allLinked().all("mark 5 1").formula("GFp");
+                for (int place = 0; place < count; place++) {
+                    x.make("go " + (place == marked ? 5 : place % 5));
+                }
+                for (int j = 0; j < count; j++) {
+                    x.gives("judge " + j + " 0", "" + (marked >= j));
+                    x.gives("judge " + j + " " + (count - 1), "" + (marked >= j));
+                }
+            }
+        }
     }
 
     private static void judgeWithoutFormula() {
