@@ -3,12 +3,16 @@ import java.util.List;
 import java.util.Random;
 
 /**
- * Compares the program with a plain reference on many chosen formulas and structures. The reference
- * reads by the grammar, judges by the words of the document, tries all lassos, and looks at every
- * pair of nodes of the tableau of the formula as it stands, without its normal form.
+ * Compares the program with a plain reference on many chosen formulas and structures, and on runs of
+ * any calls in any order. The reference reads by the grammar, judges by the words of the document,
+ * tries all lassos, and looks at every pair of nodes of the tableau of the formula as it stands,
+ * without its normal form. Where the structure is tiny, trying all lassos takes the tableau's place.
  */
 public final class PathCheckerAgainstReference {
     private static final int STATES = 6;
+    private static final int CALLS = 512;
+    /** On two states a formula with two timed operators needs no longer lasso to be kept or broken. */
+    private static final int LONG_LASSO = 9;
     private static int wrong = 0;
 
     public static void main(String[] args) {
@@ -23,6 +27,12 @@ public final class PathCheckerAgainstReference {
             for (int turn = 0; turn < 6; turn++) {
                 compareReading(x, randomText(random));
             }
+        }
+        for (int run = 0; run < 400; run++) {
+            compareTinyStructure(random);
+        }
+        for (int run = 0; run < 400; run++) {
+            new AnyCalls(random).compare();
         }
         System.out.println(wrong == 0 ? "reference: all as due" : "reference: " + wrong + " wrong");
         if (wrong != 0) {
@@ -149,6 +159,25 @@ public final class PathCheckerAgainstReference {
                 due("judge(" + j + ", " + i + ") " + root.normal(false), found, want);
             }
         }
+    }
+
+    /** Two states and at most two timed operators: the sets are those of all lassos, guess or no guess. */
+    private static void compareTinyStructure(Random random) {
+        PathChecker x = new PathChecker();
+        int[] marks = new int[STATES];
+        boolean[][] links = new boolean[STATES][STATES];
+        for (int k = 0; k < 4; k++) {
+            setMarks(x, marks, k / 2, random.nextInt(16));
+            setLink(x, links, k / 2, k % 2, random.nextInt(4) > 0);
+        }
+        Node root = compareReading(x, randomFormula(random));
+        if (root == null || root.timed() > 2) {
+            return;
+        }
+        String told = root.normal(false) + " marks " + marks[0] + " " + marks[1] + " links "
+                + java.util.Arrays.toString(links[0]) + java.util.Arrays.toString(links[1]);
+        due("breaking by lassos " + told, x.breaking(), Lassos.starts(root, marks, links, false));
+        due("keeping by lassos " + told, x.keeping(), Lassos.starts(root, marks, links, true));
     }
 
     private static String randomFormula(Random random) {
@@ -433,11 +462,348 @@ public final class PathCheckerAgainstReference {
             return null;
         }
 
+        /** The states 0 and 1 from which the path of some lasso of two states keeps it, or breaks it. */
+        static int starts(Node root, int[] marks, boolean[][] links, boolean keeping) {
+            int found = 0;
+            for (int n = 1; n <= LONG_LASSO; n++) {
+                for (int bits = 0; bits < 1 << n; bits++) {
+                    int[] row = new int[n];
+                    for (int place = 0; place < n; place++) {
+                        row[place] = bits >> place & 1;
+                    }
+                    for (int j = 0; j < n; j++) {
+                        if (isLinked(row, n, j, links)
+                                && root.along(row, n, j, marks)[0] == keeping) {
+                            found |= 1 << row[0];
+                        }
+                    }
+                }
+            }
+            return found;
+        }
+
         static int answer(List<Integer> lasso, int k) {
             if (lasso == null || k < -2 || k >= lasso.size() - 1) {
                 return -1;
             }
             return k == -1 ? lasso.size() - 1 : k == -2 ? lasso.get(lasso.size() - 1) : lasso.get(k);
+        }
+    }
+
+    /** A call with its arguments; those that it does not have are left out of sight. */
+    private record Call(String name, long a, int b, boolean is) {
+        Object madeOn(PathChecker x) {
+            int s = (int) a;
+            switch (name) {
+                case "type": return x.type(a);
+                case "wipe": x.wipe(); return "done";
+                case "length": return x.length();
+                case "formula": return x.formula();
+                case "normal": return x.normal(s);
+                case "mark": return x.mark(s, b);
+                case "link": return x.link(s, b, is);
+                case "state": return x.state(s, b);
+                case "endless": return x.endless(s);
+                case "keeps": return x.keeps(s);
+                case "breaking": return x.breaking();
+                case "keeping": return x.keeping();
+                case "witness": return x.witness(s, b);
+                case "go": return x.go(s);
+                case "clear": x.clear(); return "done";
+                default: return x.judge(s, b);
+            }
+        }
+
+        Object madeOn(Model x) {
+            int s = (int) a;
+            switch (name) {
+                case "type": return x.type(a);
+                case "wipe": x.text = ""; return "done";
+                case "length": return x.text.length();
+                case "formula": return x.formula();
+                case "normal": return x.normal(s);
+                case "mark": return x.mark(s, b);
+                case "link": return x.link(s, b, is);
+                case "state": return x.state(s, b);
+                case "endless": return x.endless(s);
+                case "keeps": return x.keeps(s);
+                case "breaking": return x.states(false);
+                case "keeping": return x.states(true);
+                case "witness": return x.witness(s, b);
+                case "go": return x.go(s);
+                case "clear": x.row.clear(); return "done";
+                default: return x.judge(s, b);
+            }
+        }
+    }
+
+    /** The class by the words of the document; an exception is answered by its name. */
+    private static final class Model {
+        private static final String NO_FORMULA = "IllegalStateException";
+        private static final String NO_PLACE = "IndexOutOfBoundsException";
+        private static final String NOT_DONE = "UnsupportedOperationException";
+
+        private String text = "";
+        private Node root;
+        private final int[] marks = new int[STATES];
+        private final boolean[][] links = new boolean[STATES][STATES];
+        private final List<Integer> row = new ArrayList<>();
+        /** What is dear to find, until the formula or the structure changes. */
+        private Tableau tableau;
+        private final java.util.Map<Integer, List<Integer>> lassos = new java.util.HashMap<>();
+
+        private void changed() {
+            tableau = null;
+            lassos.clear();
+        }
+
+        private static boolean isState(int s) {
+            return s >= 0 && s <= 5;
+        }
+
+        boolean type(long part) {
+            StringBuilder more = new StringBuilder();
+            for (byte sign : java.nio.ByteBuffer.allocate(8).putLong(part).array()) {
+                if (sign != 0 && (sign < 33 || sign > 126)) {
+                    return false;
+                }
+                more.append(sign == 0 ? "" : "" + (char) sign);
+            }
+            boolean fits = text.length() + more.length() <= 32;
+            text += fits ? more : "";
+            return fits;
+        }
+
+        Object formula() {
+            Node read = new Grammar(text).read();
+            if (read == null) {
+                return "IllegalArgumentException";
+            }
+            if (read.timed() > 5) {
+                return NOT_DONE;
+            }
+            root = read;
+            text = "";
+            changed();
+            return root.timed();
+        }
+
+        Object normal(int k) {
+            if (root == null) {
+                return NO_FORMULA;
+            }
+            String form = root.normal(false);
+            return k == -1 ? form.length() : k >= 0 && k < form.length() ? form.charAt(k) : -1;
+        }
+
+        boolean mark(int s, int value) {
+            if (!isState(s) || value < 0 || value > 15) {
+                return false;
+            }
+            marks[s] = value;
+            changed();
+            return true;
+        }
+
+        boolean link(int a, int b, boolean is) {
+            if (!isState(a) || !isState(b) || links[a][b] == is) {
+                return false;
+            }
+            links[a][b] = is;
+            changed();
+            return true;
+        }
+
+        int state(int s, int b) {
+            if (!isState(s) || b != -1 && !isState(b)) {
+                return -1;
+            }
+            return b == -1 ? marks[s] : links[s][b] ? 1 : 0;
+        }
+
+        /** There is a path from s if one can make as many steps as there are states. */
+        boolean endless(int s) {
+            int ends = isState(s) ? 1 << s : 0;
+            for (int step = 0; step < STATES; step++) {
+                int next = 0;
+                for (int k = 0; k < STATES * STATES; k++) {
+                    if ((ends >> k / STATES & 1) == 1 && links[k / STATES][k % STATES]) {
+                        next |= 1 << k % STATES;
+                    }
+                }
+                ends = next;
+            }
+            return ends != 0;
+        }
+
+        Object states(boolean keeping) {
+            if (root == null) {
+                return NO_FORMULA;
+            }
+            if (tableau == null) {
+                tableau = new Tableau(root, marks, links);
+            }
+            return tableau.statesWith(keeping);
+        }
+
+        Object keeps(int s) {
+            if (root == null) {
+                return NO_FORMULA;
+            }
+            return isState(s) ? (Object) (((int) states(false) >> s & 1) == 0) : NO_PLACE;
+        }
+
+        Object witness(int s, int k) {
+            if (root == null) {
+                return NO_FORMULA;
+            }
+            if (!isState(s)) {
+                return -1;
+            }
+            if (!lassos.containsKey(s)) {
+                lassos.put(s, Lassos.first(root, marks, links, s));
+            }
+            return Lassos.answer(lassos.get(s), k);
+        }
+
+        int go(int s) {
+            if (!isState(s) || row.size() == 8) {
+                return -1;
+            }
+            row.add(s);
+            return row.size();
+        }
+
+        Object judge(int j, int i) {
+            int count = row.size();
+            if (root == null || count == 0) {
+                return NO_FORMULA;
+            }
+            if (i < 0 || i >= count || j < 0 || j >= count) {
+                return NO_PLACE;
+            }
+            int[] states = row.stream().mapToInt(s -> s).toArray();
+            if (!Lassos.isLinked(states, count, j, links)) {
+                return NOT_DONE;
+            }
+            return root.along(states, count, j, marks)[i];
+        }
+    }
+
+    /** As many calls as an object is used for, in any order, right and wrong ones. */
+    private static final class AnyCalls {
+        /** A name comes as often as it stands here. */
+        private static final String[] NAMES = {
+            "type", "type", "type", "type", "type", "wipe", "length", "formula", "normal", "normal",
+            "mark", "mark", "link", "link", "link", "link", "link", "link", "state", "endless",
+            "keeps", "keeps", "breaking", "keeping", "witness", "witness", "witness", "witness",
+            "go", "go", "go", "go", "go", "clear", "judge", "judge", "judge", "judge"
+        };
+        private static final int[] FAR = {
+            Integer.MIN_VALUE, -32, -3, -2, -1, 6, 7, 8, 9, 16, 32, 37, 38, 256, Integer.MAX_VALUE
+        };
+
+        private final PathChecker x = new PathChecker();
+        private final Model model = new Model();
+        private final StringBuilder told = new StringBuilder();
+        private final Random random;
+        /** How likely a link is set rather than taken away, of 8. */
+        private final int density;
+        /** What is still to be typed of a text. */
+        private String rest = "";
+        private boolean typedAll = false;
+
+        AnyCalls(Random random) {
+            this.random = random;
+            density = 4 + random.nextInt(5);
+        }
+
+        void compare() {
+            for (int count = 0; count < CALLS; count++) {
+                Call call = next();
+                told.append(call.name).append(' ').append(call.a).append(' ').append(call.b)
+                        .append(' ').append(call.is).append("; ");
+                Object answer = call.madeOn(model);
+                String want = answer instanceof Character sign ? "" + (int) sign : "" + answer;
+                String found;
+                try {
+                    found = "" + call.madeOn(x);
+                } catch (RuntimeException e) {
+                    found = e.getClass().getSimpleName();
+                }
+                if (!found.equals(want)) {
+                    due("any calls: " + told, found, want);
+                    return;
+                }
+            }
+        }
+
+        private Call next() {
+            String name = NAMES[random.nextInt(NAMES.length)];
+            switch (name) {
+                case "type": return typing();
+                case "normal": return new Call(name, number(-1, 12), 0, false);
+                case "mark": return new Call(name, number(0, 5), number(0, 15), false);
+                case "link":
+                    return new Call(name, number(0, 5), number(0, 5), random.nextInt(8) < density);
+                case "state": return new Call(name, number(0, 5), number(-1, 5), false);
+                case "witness": return new Call(name, number(0, 5), number(-2, 5), false);
+                case "go": return new Call(name, stateToGo(), 0, false);
+                case "judge":
+                    int last = Math.max(model.row.size() - 1, 0);
+                    return new Call(name, number(0, last), number(0, last), false);
+                default: return new Call(name, number(0, 5), 0, false);
+            }
+        }
+
+        private int number(int least, int most) {
+            return random.nextInt(12) == 0
+                    ? FAR[random.nextInt(FAR.length)] : least + random.nextInt(most - least + 1);
+        }
+
+        /** Mostly one that the last of the row is linked to, so that the row can be judged. */
+        private int stateToGo() {
+            int s = number(0, 5);
+            int count = model.row.size();
+            for (int more = 0; more < 8 && count > 0; more++) {
+                if (model.state(model.row.get(count - 1), s) == 1) {
+                    return s;
+                }
+                s = number(0, 5);
+            }
+            return s;
+        }
+
+        /** A text is typed part by part, then taken as the formula, then wiped if it is still there. */
+        private Call typing() {
+            if (random.nextInt(24) == 0) {
+                long part = random.nextBoolean() ? random.nextLong() : random.nextInt(256);
+                return new Call("type", part, 0, false);
+            }
+            if (rest.isEmpty() && typedAll) {
+                typedAll = false;
+                return new Call("formula", 0, 0, false);
+            }
+            if (rest.isEmpty() && !model.text.isEmpty() && random.nextInt(4) > 0) {
+                return new Call("wipe", 0, 0, false);
+            }
+            if (rest.isEmpty()) {
+                rest = random.nextInt(4) == 0 ? randomText(random) : randomFormula(random);
+            }
+            return new Call("type", partOfRest(), 0, false);
+        }
+
+        private long partOfRest() {
+            long part = 0;
+            for (int at = 0; at < 8; at++) {
+                part <<= 8;
+                if (!rest.isEmpty() && random.nextInt(6) > 0) {
+                    part |= rest.charAt(0);
+                    rest = rest.substring(1);
+                }
+            }
+            typedAll = rest.isEmpty();
+            return part;
         }
     }
 

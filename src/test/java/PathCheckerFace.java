@@ -35,6 +35,10 @@ public final class PathCheckerFace {
 
     private static void classItself() throws Exception {
         due("modifiers", Modifier.toString(PathChecker.class.getModifiers()), "public final");
+        due("superclass", PathChecker.class.getSuperclass(), Object.class);
+        due("interfaces", PathChecker.class.getInterfaces().length, 0);
+        due("type parameters", PathChecker.class.getTypeParameters().length, 0);
+        due("package", PathChecker.class.getPackageName(), "");
         Constructor<?>[] constructors = PathChecker.class.getDeclaredConstructors();
         due("constructors", constructors.length, 1);
         due("constructor", constructors[0].toString(), "public PathChecker()");
@@ -80,6 +84,8 @@ public final class PathCheckerFace {
         }
         for (Class<?> inside : PathChecker.class.getDeclaredClasses()) {
             due("static: " + inside, Modifier.isStatic(inside.getModifiers()), true);
+            int open = inside.getModifiers() & (Modifier.PUBLIC | Modifier.PROTECTED);
+            due("private or package-visible: " + inside, open, 0);
         }
     }
 

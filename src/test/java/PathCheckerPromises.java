@@ -31,9 +31,11 @@ public final class PathCheckerPromises {
         witness();
         witnessOrder();
         witnessLimit();
+        witnessIsJudgedBroken();
         goAndClear();
         judge();
         judgeThrows();
+        judgeFollowsAtOnce();
         meaningOfOperators();
         System.out.println(wrong == 0 ? "promises: all as due" : "promises: " + wrong + " wrong");
         if (wrong != 0) {
@@ -631,6 +633,66 @@ public final class PathCheckerPromises {
         dueLasso(x, "Fr", 0, null);
     }
 
+    /** The witness is the first lasso of which judge says that its path breaks the formula. */
+    private static void witnessIsJudgedBroken() {
+        String[] structures = {
+            "01 10 12 22", "00 01 12 20", "01 12 23 34 45 50 52", "02 20 21 13 33 31 04 44",
+            "05 50 54 45 41 14 11", "01 10 02 20 03 30"
+        };
+        String[] texts = {
+            "0", "Xp", "!XXq", "!Fr", "GFq", "FGp", "pUq", "qRp", "!(Fq&Fr)", "!(FGq|XXXr)",
+            "G(p>Xq)", "!(XFp&FGr)", "!(p&X(!p&X(p&X!p)))"
+        };
+        for (String links : structures) {
+            for (String text : texts) {
+                for (int s = 0; s < 6; s++) {
+                    dueLasso(linked(links), text, s, firstJudgedBroken(links, text, s));
+                }
+            }
+        }
+    }
+
+    /** Its states and its j, or null if there is none. */
+    private static String firstJudgedBroken(String links, String text, int s) {
+        for (int n = 1, rows = 1; n <= 6; n++, rows *= 6) {
+            for (int k = 0; k < rows; k++) {
+                String row = s + (n == 1 ? "" : digits(k, n - 1));
+                for (int j = 0; j < n && isLinked(links, row); j++) {
+                    if (isLinked(links, "" + row.charAt(n - 1) + row.charAt(j))
+                            && !judged(links, text, row, j)) {
+                        return row + " j" + j;
+                    }
+                }
+            }
+        }
+        return null;
+    }
+
+    /** The number k in the order of the states, the first place counting most. */
+    private static String digits(int k, int count) {
+        String text = Integer.toString(k, 6);
+        return "0".repeat(count - text.length()) + text;
+    }
+
+    private static boolean isLinked(String links, String row) {
+        for (int place = 0; place + 1 < row.length(); place++) {
+            if (!links.contains(row.substring(place, place + 2))) {
+                return false;
+            }
+        }
+        return true;
+    }
+
+    private static boolean judged(String links, String text, String row, int j) {
+        PathChecker x = linked(links);
+        put(x, text);
+        x.formula();
+        for (char s : row.toCharArray()) {
+            x.go(s - '0');
+        }
+        return x.judge(j, 0);
+    }
+
     // Promises 15 and 16
 
     private static void goAndClear() {
@@ -703,6 +765,38 @@ public final class PathCheckerPromises {
         dueThrow("17 the row is empty", IllegalStateException.class, () -> bit(x.judge(0, 0)));
     }
 
+    /** The row's states stay, but what they have and whether the row is a path may change. */
+    private static void judgeFollowsAtOnce() {
+        PathChecker x = twoLoops();
+        x.go(0);
+        x.go(1);
+        put(x, "Xq");
+        x.formula();
+        due("17 at first", x.judge(1, 0), true);
+        x.mark(1, 1);
+        due("7 the marks of now", x.judge(1, 0), false);
+        put(x, "XXp");
+        x.formula();
+        due("5 the formula of now", x.judge(1, 0), true);
+        x.link(1, 1, false);
+        dueThrow("8 not linked any more", UnsupportedOperationException.class,
+                () -> bit(x.judge(1, 0)));
+        x.link(1, 1, true);
+        due("8 linked again", x.judge(1, 0), true);
+        due("15 the row goes on", x.go(1), 3);
+        due("15 and is another path", x.judge(2, 2), true);
+        dueThrow("15 that needs its own links", UnsupportedOperationException.class,
+                () -> bit(x.judge(0, 0)));
+        x.clear();
+        x.go(0);
+        x.mark(0, 0);
+        due("16 another row", x.judge(0, 0), false);
+        put(x, "q&");
+        due("4 a text is no formula yet", x.judge(0, 0), false);
+        x.mark(0, 1);
+        due("7 the marks of now again", x.judge(0, 0), true);
+    }
+
     private static void meaningOfOperators() {
         PathChecker x = complete();
         x.go(1);
@@ -738,6 +832,19 @@ public final class PathCheckerPromises {
         x.link(0, 0, true);
         x.link(0, 1, true);
         x.link(1, 1, true);
+        return x;
+    }
+
+    /** The links are two digits each; 0 and 3 have p, 1 and 4 have q, 2 and 4 have r. */
+    private static PathChecker linked(String links) {
+        PathChecker x = new PathChecker();
+        for (String link : links.split(" ")) {
+            x.link(link.charAt(0) - '0', link.charAt(1) - '0', true);
+        }
+        int[] marks = {1, 2, 4, 1, 6, 0};
+        for (int s = 0; s < 6; s++) {
+            x.mark(s, marks[s]);
+        }
         return x;
     }
 
