@@ -3,15 +3,16 @@ import java.util.List;
 import java.util.Random;
 
 /**
- * Compares the program with a plain reference on many chosen formulas and structures, and on runs of
- * any calls in any order. The reference reads by the grammar, judges by the words of the document,
- * tries all lassos, and looks at every pair of nodes of the tableau of the formula as it stands,
- * without its normal form. Where the structure is tiny, trying all lassos takes the tableau's place.
+ * Compares the program with a plain reference on many chosen formulas and structures, and on runs
+ * of any calls in any order. The reference reads by the grammar, judges by the words of the
+ * document, tries all lassos, and looks at every pair of nodes of the tableau of the formula as it
+ * stands, without its normal form. Where the structure is tiny, trying all lassos takes the
+ * tableau's place.
  */
 public final class PathCheckerAgainstReference {
     private static final int STATES = 6;
     private static final int CALLS = 512;
-    /** On two states a formula with two timed operators needs no longer lasso to be kept or broken. */
+    /** On two states, two timed operators have not been seen to ask for a longer one. */
     private static final int LONG_LASSO = 9;
     private static int wrong = 0;
 
@@ -83,7 +84,7 @@ public final class PathCheckerAgainstReference {
         links[a][b] = is;
     }
 
-    /** Types the text and takes it as the formula; its tree, or null if it is none or not modest. */
+    /** Takes the text as the formula; its tree, or null if it is none or not modest. */
     private static Node compareReading(PathChecker x, String text) {
         x.wipe();
         for (int i = 0; i < text.length(); i++) {
@@ -126,7 +127,8 @@ public final class PathCheckerAgainstReference {
             due("endless " + s + " " + told, x.endless(s), ((breaking | keeping) >> s & 1) == 1);
             List<Integer> lasso = Lassos.first(root, marks, links, s);
             for (int k = -3; k <= 7; k++) {
-                due("witness " + s + " " + k + " " + told, x.witness(s, k), Lassos.answer(lasso, k));
+                String call = "witness " + s + " " + k + " " + told;
+                due(call, x.witness(s, k), Lassos.answer(lasso, k));
             }
         }
         compareJudging(x, root, marks, links, random);
@@ -140,8 +142,10 @@ public final class PathCheckerAgainstReference {
         for (int place = 0; place < count; place++) {
             row[place] = random.nextInt(STATES);
             // Mostly a row that is linked, as one by chance hardly ever is.
-            for (int more = 0; more < 12 && place > 0 && !links[row[place - 1]][row[place]]; more++) {
-                row[place] = random.nextInt(STATES);
+            for (int more = 0; more < 12 && place > 0; more++) {
+                if (!links[row[place - 1]][row[place]]) {
+                    row[place] = random.nextInt(STATES);
+                }
             }
             due("go", x.go(row[place]), place + 1);
         }
@@ -161,7 +165,7 @@ public final class PathCheckerAgainstReference {
         }
     }
 
-    /** Two states and at most two timed operators: the sets are those of all lassos, guess or no guess. */
+    /** Two states, at most two timed operators: the sets come from all lassos, not by guesses. */
     private static void compareTinyStructure(Random random) {
         PathChecker x = new PathChecker();
         int[] marks = new int[STATES];
@@ -203,7 +207,10 @@ public final class PathCheckerAgainstReference {
         if (kind < 10) {
             return wrapped(random, depth) + "&|URU".charAt(kind - 5) + wrapped(random, depth);
         }
-        return kind == 10 ? randomPart(random, 0) : wrapped(random, depth) + ">" + wrapped(random, depth);
+        if (kind == 10) {
+            return randomPart(random, 0);
+        }
+        return wrapped(random, depth) + ">" + wrapped(random, depth);
     }
 
     private static String wrapped(Random random, int depth) {
@@ -278,7 +285,8 @@ public final class PathCheckerAgainstReference {
             return holds;
         }
 
-        private boolean at(int i, int[] row, int j, int[] marks, boolean[] first, boolean[] second) {
+        private boolean at(
+                int i, int[] row, int j, int[] marks, boolean[] first, boolean[] second) {
             int count = second != null ? second.length : first != null ? first.length : 0;
             switch (sign) {
                 case '!': return !first[i];
@@ -462,7 +470,7 @@ public final class PathCheckerAgainstReference {
             return null;
         }
 
-        /** The states 0 and 1 from which the path of some lasso of two states keeps it, or breaks it. */
+        /** Those of the states 0 and 1 from which some lasso's path keeps it, or breaks it. */
         static int starts(Node root, int[] marks, boolean[][] links, boolean keeping) {
             int found = 0;
             for (int n = 1; n <= LONG_LASSO; n++) {
@@ -486,7 +494,8 @@ public final class PathCheckerAgainstReference {
             if (lasso == null || k < -2 || k >= lasso.size() - 1) {
                 return -1;
             }
-            return k == -1 ? lasso.size() - 1 : k == -2 ? lasso.get(lasso.size() - 1) : lasso.get(k);
+            int n = lasso.size() - 1;
+            return k == -1 ? n : k == -2 ? lasso.get(n) : lasso.get(k);
         }
     }
 
@@ -774,7 +783,7 @@ public final class PathCheckerAgainstReference {
             return s;
         }
 
-        /** A text is typed part by part, then taken as the formula, then wiped if it is still there. */
+        /** A text is typed part by part, then taken as the formula, then wiped if it stays. */
         private Call typing() {
             if (random.nextInt(24) == 0) {
                 long part = random.nextBoolean() ? random.nextLong() : random.nextInt(256);

@@ -874,7 +874,8 @@ public final class PathCheckerPromises {
 
     private static void put(PathChecker x, String text) {
         for (int i = 0; i < text.length(); i += 8) {
-            due("2 type " + text, x.type(pack(text.substring(i, Math.min(i + 8, text.length())))), true);
+            String part = text.substring(i, Math.min(i + 8, text.length()));
+            due("2 type " + text, x.type(pack(part)), true);
         }
     }
 
