@@ -131,7 +131,47 @@ public final class PathCheckerAgainstReference {
                 due(call, x.witness(s, k), Lassos.answer(lasso, k));
             }
         }
+        certify(tableau, root, marks, links, told);
+        compareWalks(breaking, keeping, root, marks, links, random);
         compareJudging(x, root, marks, links, random);
+    }
+
+    /** Each state of the two sets has a lasso, however long, that shows it by the words alone. */
+    private static void certify(
+            Tableau tableau, Node root, int[] marks, boolean[][] links, String told) {
+        for (int k = 0; k < 2 * STATES; k++) {
+            boolean keeping = k % 2 == 1;
+            boolean isIn = (tableau.statesWith(keeping) >> k / 2 & 1) == 1;
+            List<Integer> lasso = tableau.lassoOf(k / 2, keeping);
+            due("a lasso from " + k / 2 + " for " + told, lasso != null, isIn);
+            if (lasso != null) {
+                int[] row = lasso.stream().mapToInt(node -> node).toArray();
+                int count = row.length - 1;
+                int j = row[count];
+                String what = "lasso " + lasso + (keeping ? " keeps " : " breaks ") + told;
+                due(what + " from", row[0], k / 2);
+                due(what + " linked", Lassos.isLinked(row, count, j, links), true);
+                due(what, root.along(row, count, j, marks)[0], keeping);
+            }
+        }
+    }
+
+    /** No lasso that is found by walking about begins at a state that is not in its set. */
+    private static void compareWalks(int breaking, int keeping, Node root, int[] marks,
+            boolean[][] links, Random random) {
+        for (int walk = 0; walk < 60; walk++) {
+            int[] row = Lassos.walk(links, random);
+            int count = row.length;
+            for (int j = 0; j < count; j++) {
+                if (Lassos.isLinked(row, count, j, links)) {
+                    boolean keeps = root.along(row, count, j, marks)[0];
+                    int set = keeps ? keeping : breaking;
+                    due((keeps ? "keeping" : "breaking") + " has the start of "
+                            + java.util.Arrays.toString(row) + " j" + j + " by "
+                            + root.normal(false), set >> row[0] & 1, 1);
+                }
+            }
+        }
     }
 
     private static void compareJudging(
@@ -468,6 +508,25 @@ public final class PathCheckerAgainstReference {
                 }
             }
             return null;
+        }
+
+        /** As far as the links lead, but no more than 16 states. */
+        static int[] walk(boolean[][] links, Random random) {
+            int[] row = new int[1 + random.nextInt(16)];
+            row[0] = random.nextInt(STATES);
+            for (int place = 1; place < row.length; place++) {
+                List<Integer> next = new ArrayList<>();
+                for (int b = 0; b < STATES; b++) {
+                    if (links[row[place - 1]][b]) {
+                        next.add(b);
+                    }
+                }
+                if (next.isEmpty()) {
+                    return java.util.Arrays.copyOf(row, place);
+                }
+                row[place] = next.get(random.nextInt(next.size()));
+            }
+            return row;
         }
 
         /** Those of the states 0 and 1 from which some lasso's path keeps it, or breaks it. */
@@ -823,6 +882,7 @@ public final class PathCheckerAgainstReference {
         private final int[] marks;
         private final int guesses;
         private final int nodes;
+        private final boolean[][] steps;
         /** Row u: the nodes that u reaches in one step or more. */
         private final long[][] reach;
 
@@ -832,10 +892,12 @@ public final class PathCheckerAgainstReference {
             collect(root);
             guesses = 1 << timed.size();
             nodes = STATES * guesses;
+            steps = new boolean[nodes][nodes];
             reach = new long[nodes][3];
             for (int u = 0; u < nodes; u++) {
                 for (int w = 0; w < nodes; w++) {
                     if (links[u / guesses][w / guesses] && follows(u, w)) {
+                        steps[u][w] = true;
                         reach[u][w >> 6] |= 1L << w;
                     }
                 }
@@ -931,6 +993,60 @@ public final class PathCheckerAgainstReference {
                 }
             }
             return true;
+        }
+
+        /** The states of a lasso from s that keeps or breaks the formula and its j, or null. */
+        List<Integer> lassoOf(int s, boolean keeping) {
+            for (int u = s * guesses; u < (s + 1) * guesses; u++) {
+                for (int w = 0; w < nodes && holds(root, u) == keeping; w++) {
+                    if ((u == w || reaches(u, w)) && turnsForEver(w)) {
+                        return lassoBy(u, w);
+                    }
+                }
+            }
+            return null;
+        }
+
+        /** From u to w and then round, by a node for each timed operator at which it is prompt. */
+        private List<Integer> lassoBy(int u, int w) {
+            List<Integer> row = new ArrayList<>(List.of(u));
+            if (u != w) {
+                row.addAll(way(u, w));
+            }
+            int j = row.size() - 1;
+            for (Node node : timed) {
+                int v = 0;
+                while (!(reaches(w, v) && reaches(v, w) && isPrompt(node, v))) {
+                    v++;
+                }
+                row.addAll(way(row.get(row.size() - 1), v));
+            }
+            row.addAll(way(row.get(row.size() - 1), w));
+            row.set(row.size() - 1, j);
+            for (int place = 0; place + 1 < row.size(); place++) {
+                row.set(place, row.get(place) / guesses);
+            }
+            return row;
+        }
+
+        /** The nodes of a shortest way of one step or more, without the first. */
+        private List<Integer> way(int u, int w) {
+            int[] before = new int[nodes];
+            java.util.Arrays.fill(before, -1);
+            List<Integer> seen = new ArrayList<>(List.of(u));
+            for (int k = 0; k < seen.size() && before[w] < 0; k++) {
+                for (int v = 0; v < nodes; v++) {
+                    if (steps[seen.get(k)][v] && before[v] < 0) {
+                        before[v] = seen.get(k);
+                        seen.add(v);
+                    }
+                }
+            }
+            List<Integer> found = new ArrayList<>(List.of(w));
+            for (int v = before[w]; v != u; v = before[v]) {
+                found.add(0, v);
+            }
+            return found;
         }
 
         int statesWith(boolean keeping) {
